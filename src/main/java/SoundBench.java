@@ -10,7 +10,8 @@ public final class SoundBench {
 
     private static final int TAPE_LIMIT = 4000;
     private static final int FED_BYTES = 20;
-    private static final int HEADER_BYTES = 4;
+    // Of a number that is fed, and of a HEADER.
+    private static final int WORD_BYTES = 4;
     private static final int FRAMES_A_CALL = 40;
     private static final int SUM_LIMIT = 2000;
 
@@ -178,25 +179,25 @@ public final class SoundBench {
     }
 
     private void appendWord(int word) {
-        if (length + HEADER_BYTES > TAPE_LIMIT) {
+        if (length + WORD_BYTES > TAPE_LIMIT) {
             return;
         }
         tape[length] = word >>> 24;
         tape[length + 1] = word >>> 16 & 255;
         tape[length + 2] = word >>> 8 & 255;
         tape[length + 3] = word & 255;
-        length += HEADER_BYTES;
+        length += WORD_BYTES;
     }
 
     private int wordAt(int at) {
-        if (at < 0 || at + HEADER_BYTES > length) {
+        if (at < 0 || at + WORD_BYTES > length) {
             return 0;
         }
         return tape[at] << 24 | tape[at + 1] << 16 | tape[at + 2] << 8 | tape[at + 3];
     }
 
     private int findHeader() {
-        for (int at = place; at + HEADER_BYTES <= length; at++) {
+        for (int at = place; at + WORD_BYTES <= length; at++) {
             if (Frame.isGood(wordAt(at))) {
                 return at;
             }
@@ -209,7 +210,7 @@ public final class SoundBench {
         int at = findHeader();
         if (at == NONE) {
             // The last three bytes may yet begin a HEADER when more is fed.
-            place = Math.max(place, length - (HEADER_BYTES - 1));
+            place = Math.max(place, length - (WORD_BYTES - 1));
             return false;
         }
         place = at;

@@ -304,6 +304,11 @@ public final class LayerTwoTest {
         DUE.is("row 12", x.band(0, 0, 12), -2L * (2097152 >> 2) / 3);
         DUE.is("row 35", x.band(0, 0, 35), -2L * (1664511 >> 2) / 3);
         DUE.is("row 36", x.band(0, 0, 36), 0);
+        // Of two CHANNELS: no row of the one behind the last row of the other.
+        x = decoded(new FrameWriter(2, 6, 1, 0).put(1, 4, 2).bytes());
+        DUE.is("row 0 of channel 1", x.band(1, 0, 0), -2L * 2097152 / 3);
+        DUE.is("row 36 of channel 0", x.band(0, 0, 36), 0);
+        DUE.is("row 36 of channel 1", x.band(1, 0, 36), 0);
         // Behind it a FRAME of Layer I has twelve rows alone.
         x = decoded(new FrameWriter(2, 2, 1, 3).put(1, 4).bytes(), Sounds.ofLayerOne(0));
         DUE.is("row 12 of Layer I", x.band(0, 0, 12), 0);

@@ -115,6 +115,8 @@ public final class SoundTest {
             DUE.is("0 is silent at " + i, x.pcm(0, i), 0);
             DUE.is("0 sounds in the second FRAME at " + i, x.pcm(0, 384 + i), y.pcm(0, i));
         }
+        DUE.is("sum of 1", x.sum(1, 200, 600), y.sum(0, 200, 600));
+        DUE.holds("sum of 1 is its own", x.sum(1, 200, 600) != 0 && x.sum(0, 0, 384) == 0);
         DUE.is("v of 1", x.memory(1, 48), -1398101);
         DUE.is("v of 0", x.memory(0, 48), 0);
         DUE.is("v of 0, of the FRAME before", x.memory(0, 768 + 48), -1398101);
