@@ -1,20 +1,8 @@
 /** Terms II and IV, promises 6 and 8 to 10 for Layer II: tables, CHECK, SELECTIONS, factors, codes. */
 public final class LayerTwoTest {
     private static final Due DUE = new Due("LayerTwoTest");
-    private static final int[] STEPS = {
-        3, 5, 7, 9, 15, 31, 63, 127, 255, 511, 1023, 2047, 4095, 8191, 16383, 32767, 65535
-    };
-    // Each row: its last band, the bits of its allocations, the numbers of its STEPS.
-    private static final int[][] FIRST = {
-        {2, 4, 0, 2, 4, 5, 6, 7, 8, 9, 10, 11, 12, 13, 14, 15, 16},
-        {10, 4, 0, 1, 2, 3, 4, 5, 6, 7, 8, 9, 10, 11, 12, 13, 16},
-        {22, 3, 0, 1, 2, 3, 4, 5, 16},
-        {29, 2, 0, 1, 16},
-    };
-    private static final int[][] SECOND = {
-        {1, 4, 0, 1, 3, 4, 5, 6, 7, 8, 9, 10, 11, 12, 13, 14, 15},
-        {11, 3, 0, 1, 3, 4, 5, 6, 7},
-    };
+    private static final int[][] FIRST = LayerTwoTables.FIRST;
+    private static final int[][] SECOND = LayerTwoTables.SECOND;
 
     public static void main(String[] args) {
         // Rate, sampling of one CHANNEL: 27 of the first (by rate, and by sampling), 30 of it, 8 and 12 of the second.
@@ -51,31 +39,14 @@ public final class LayerTwoTest {
         DUE.is(what + ": place", x.count(1), bytes.length);
     }
 
-    private static int[] rowOf(int[][] table, int band) {
-        for (int[] row : table) {
-            if (band <= row[0]) {
-                return row;
-            }
-        }
-        throw new IllegalStateException("band " + band);
-    }
-
-    /** Allocations of one CHANNEL: 0, but for one band. */
-    private static FrameWriter alloted(FrameWriter writer, int bands, int[][] table, int band, int allocation) {
-        for (int b = 0; b < bands; b++) {
-            writer.put(b == band ? allocation : 0, rowOf(table, b)[1]);
-        }
-        return writer;
-    }
-
     private static void everyAllocation(int rate, int sampling, int bands, int[][] table) {
         for (int band = 0; band < bands; band++) {
-            int[] row = rowOf(table, band);
+            int[] row = LayerTwoTables.rowOf(table, band);
             DUE.is("a table's row is whole", row.length - 2, (1 << row[1]) - 1);
             for (int a = 1; a < 1 << row[1]; a++) {
                 FrameWriter writer = new FrameWriter(2, rate, sampling, 3);
-                alloted(writer, bands, table, band, a).put(2, 2).put(17, 6);
-                int l = STEPS[row[1 + a]];
+                LayerTwoTables.allotted(writer, bands, table, band, a).put(2, 2).put(17, 6);
+                int l = LayerTwoTables.stepsOf(table, band, a);
                 String name = "rate " + rate + ", sampling " + sampling + ", band " + band + ", allocation " + a;
                 // Codes of the second step, as far as the FRAME has room for any.
                 if (l == 3 || l == 5 || l == 9) {
@@ -155,10 +126,10 @@ public final class LayerTwoTest {
     private static void singleCodes() {
         // Of seven steps: three codes of three bits, in band 0 of the first table.
         for (int at = 0; at < 36; at++) {
-            FrameWriter writer = alloted(new FrameWriter(2, 5, 0, 3), 27, FIRST, 0, 2).put(2, 2).put(3, 6);
+            FrameWriter writer = LayerTwoTables.allotted(new FrameWriter(2, 5, 0, 3), 27, FIRST, 0, 2).put(2, 2).put(3, 6);
             outcome("code 7 of 7 in row " + at, 2, writer.put(1, 3, at).put(7, 3).bytes());
         }
-        FrameWriter writer = alloted(new FrameWriter(2, 5, 0, 3), 27, FIRST, 0, 2).put(2, 2).put(3, 6);
+        FrameWriter writer = LayerTwoTables.allotted(new FrameWriter(2, 5, 0, 3), 27, FIRST, 0, 2).put(2, 2).put(3, 6);
         for (int t = 0; t < 36; t++) {
             writer.put(t % 7, 3);
         }
@@ -168,10 +139,10 @@ public final class LayerTwoTest {
         }
         // Of 65535 steps: the least, the greatest below L, and L.
         for (int last : new int[] {65534, 65535}) {
-            writer = alloted(new FrameWriter(2, 10, 0, 3), 30, FIRST, 29, 3).put(2, 2).put(0, 6);
+            writer = LayerTwoTables.allotted(new FrameWriter(2, 10, 0, 3), 30, FIRST, 29, 3).put(2, 2).put(0, 6);
             outcome("code " + last + " of 65535", last - 65534 == 0 ? 0 : 2, writer.put(0, 16, 35).put(last, 16).bytes());
         }
-        writer = alloted(new FrameWriter(2, 10, 0, 3), 30, FIRST, 29, 3).put(2, 2).put(0, 6);
+        writer = LayerTwoTables.allotted(new FrameWriter(2, 10, 0, 3), 30, FIRST, 29, 3).put(2, 2).put(0, 6);
         x = decoded(writer.put(0, 16, 35).put(65534, 16).bytes());
         DUE.is("the least of 65535", x.band(0, 29, 0), -65534 * 2097152L / 65535);
         DUE.is("the greatest of 65535", x.band(0, 29, 35), 65534 * 2097152L / 65535);

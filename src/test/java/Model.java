@@ -384,6 +384,11 @@ final class Model {
         return all;
     }
 
+    /** W(n) of Term V, 0 to 511. */
+    static int windowAt(int n) {
+        return WINDOW[n];
+    }
+
     private static int[] window() {
         String[] half = HALF_WINDOW.trim().split(" ");
         int[] whole = new int[512];

@@ -25,13 +25,13 @@ final class Tapes {
 
     /** Behind what the TAPE has: feeds by twenties, and cuts off what the last one had too many. */
     static void append(SoundBench bench, byte[] bytes) {
-        int want = bench.count(0) + bytes.length;
+        int had = bench.count(0);
+        int want = had + bytes.length;
         for (int i = 0; i < bytes.length; i += 20) {
-            int at = bench.count(0);
             int fed = bench.feed(word(bytes, i), word(bytes, i + 4), word(bytes, i + 8), word(bytes, i + 12),
                     word(bytes, i + 16));
-            if (fed != at + 20) {
-                throw new IllegalStateException("feed answered " + fed + " behind " + at + " bytes");
+            if (fed != had + i + 20) {
+                throw new IllegalStateException("feed answered " + fed + " behind " + (had + i) + " bytes");
             }
         }
         if (bench.end(want) != want) {
