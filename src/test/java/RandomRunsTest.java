@@ -28,11 +28,12 @@ public final class RandomRunsTest {
         for (int run = 0; run < RUNS && due.wrongSoFar() < 40; run++) {
             RandomRunsTest test = new RandomRunsTest(due, run);
             test.goOn();
-            for (int k = 0; k < test.bench.count(2); k++) {
-                outcomes[test.bench.frame(k, 0)]++;
+            // By the Model, for the object has had its calls.
+            for (int k = 0; k < test.model.count(2); k++) {
+                outcomes[test.model.frame(k, 0)]++;
             }
-            for (int i = 0; i < test.bench.count(4); i++) {
-                loud += Math.abs(test.bench.pcm(0, i)) > 100 ? 1 : 0;
+            for (int i = 0; i < test.model.count(4); i++) {
+                loud += Math.abs(test.model.pcm(0, i)) > 100 ? 1 : 0;
             }
         }
         // The runs tell nothing if what they bring is all refused, or silent.

@@ -50,11 +50,13 @@ public final class SoundTest {
             model.decode();
             for (int c = 0; c < 2; c++) {
                 DUE.is("PCM of " + c, x.count(4 + c), model.count(4 + c));
+                int[] pcm = Sounds.pcmOf(c, 1152, bytes);
                 for (int i = 0; i < 1152; i++) {
-                    DUE.is("FRAME " + n + ": pcm(" + c + ", " + i + ")", x.pcm(c, i), model.pcm(c, i));
+                    DUE.is("FRAME " + n + ": pcm(" + c + ", " + i + ")", pcm[i], model.pcm(c, i));
                 }
+                int[] numbers = Sounds.numbersOf(c, bytes);
                 for (int i = 0; i < 1024; i++) {
-                    DUE.is("FRAME " + n + ": memory(" + c + ", " + i + ")", x.memory(c, i), model.memory(c, i));
+                    DUE.is("FRAME " + n + ": memory(" + c + ", " + i + ")", numbers[i], model.memory(c, i));
                 }
             }
         }
@@ -108,12 +110,15 @@ public final class SoundTest {
         DUE.is("PCM of 0", x.count(4), 3 * 384);
         DUE.is("PCM of 1", x.count(5), 2 * 384);
         SoundBench y = decoded(Sounds.ofLayerOne(0), Sounds.ofLayerOne(0));
+        int[] alone = Sounds.pcmOf(0, 768, Sounds.ofLayerOne(0), Sounds.ofLayerOne(0));
+        int[] ofZero = Sounds.pcmOf(0, 768, right, Sounds.ofLayerOne(0), right);
+        int[] ofOne = Sounds.pcmOf(1, 768, right, Sounds.ofLayerOne(0), right);
         for (int i = 0; i < 768; i++) {
-            DUE.is("1 is without a gap at " + i, x.pcm(1, i), y.pcm(0, i));
+            DUE.is("1 is without a gap at " + i, ofOne[i], alone[i]);
         }
         for (int i = 0; i < 384; i++) {
-            DUE.is("0 is silent at " + i, x.pcm(0, i), 0);
-            DUE.is("0 sounds in the second FRAME at " + i, x.pcm(0, 384 + i), y.pcm(0, i));
+            DUE.is("0 is silent at " + i, ofZero[i], 0);
+            DUE.is("0 sounds in the second FRAME at " + i, ofZero[384 + i], alone[i]);
         }
         DUE.is("sum of 1", x.sum(1, 200, 600), y.sum(0, 200, 600));
         DUE.holds("sum of 1 is its own", x.sum(1, 200, 600) != 0 && x.sum(0, 0, 384) == 0);
@@ -138,10 +143,11 @@ public final class SoundTest {
         SoundBench x = decoded(Sounds.ofLayerOne(0), Sounds.ofLayerOne(7));
         int[][] asked = {{0, 384}, {100, 101}, {100, 100}, {100, 99}, {0, 2000}, {383, 2383}, {700, 800}, {767, 768},
             {768, 800}, {5, Integer.MIN_VALUE}};
+        int[] pcm = Sounds.pcmOf(0, 768, Sounds.ofLayerOne(0), Sounds.ofLayerOne(7));
         for (int[] a : asked) {
             long want = 0;
-            for (int p = a[0]; p < a[1]; p++) {
-                want += (long) x.pcm(0, p) * (p - a[0] + 1);
+            for (int p = a[0]; p < a[1] && p < pcm.length; p++) {
+                want += (long) pcm[p] * (p - a[0] + 1);
             }
             DUE.is("sum(0, " + a[0] + ", " + a[1] + ")", x.sum(0, a[0], a[1]), (int) want);
         }
@@ -164,9 +170,10 @@ public final class SoundTest {
         }
         SoundBench x = decoded(loud);
         // 2000 samples, the last 1700 and more of them 32767: beyond the ints.
+        int[] pcm = Sounds.pcmOf(0, 2300, loud);
         long want = 0;
         for (int p = 300; p < 2300; p++) {
-            want += (long) x.pcm(0, p) * (p - 299);
+            want += (long) pcm[p] * (p - 299);
         }
         DUE.holds("beyond the ints", want > Integer.MAX_VALUE);
         DUE.is("sum(0, 300, 2300)", x.sum(0, 300, 2300), (int) want);
